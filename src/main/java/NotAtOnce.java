@@ -1857,12 +1857,13 @@ public final class NotAtOnce {
                 return;
             }
             worked = true;
-            for (states = 1; states <= STATES; states++) {
+            for (int many = 1; many <= STATES; many++) {
+                states = many;
                 for (int pair = 0; pair < PAIRS; pair++) {
                     answers[pair] = NOT_SO;
                     goesTo[pair] = NOT_SO;
                 }
-                if (tell(0, 0, 0) == ALL_TOLD) {
+                if (tell(0, 0, 0, 0) == ALL_TOLD) {
                     return;
                 }
             }
@@ -1875,11 +1876,12 @@ public final class NotAtOnce {
         }
 
         /**
-         * Tells the steps from one on, in a state to which the pairs of a path led. ALL_TOLD, or, if
-         * it can't be, pairs (bits) whose going on as now is alone enough for that: where the pair
-         * that is asked for here isn't among them, no other state for it would help.
+         * Tells the steps from one on, in a state to which the pairs of a path led; the highest is
+         * that of the states gone to as yet. ALL_TOLD, or, if it can't be, pairs (bits) whose going
+         * on as now is alone enough for that: where the pair that is asked for here isn't among
+         * them, no other state for it would help.
          */
-        private int tell(int step, int state, int path) {
+        private int tell(int step, int state, int path, int highest) {
             if (step >= steps) {
                 return ALL_TOLD;
             }
@@ -1888,15 +1890,17 @@ public final class NotAtOnce {
                 if (answers[pair] != stepTold[step]) {
                     return path | reasons[pair];
                 }
-                return tellOn(step, pair, path);
+                return tellOn(step, pair, path, highest);
             }
             answers[pair] = stepTold[step];
             reasons[pair] = path;
             int blame = 0;
             boolean helps = true;
-            for (int to = 0; helps && to < states; to++) {
+            // of states not gone to as yet one is as good as another: the first stands for them all
+            int last = Math.min(states - 1, highest + 1);
+            for (int to = 0; helps && to <= last; to++) {
                 goesTo[pair] = to;
-                int result = tellOn(step, pair, path);
+                int result = tellOn(step, pair, path, Math.max(highest, to));
                 if (result == ALL_TOLD) {
                     return ALL_TOLD;
                 }
@@ -1909,11 +1913,11 @@ public final class NotAtOnce {
         }
 
         /** Each step is one deeper, and there are RUNS * STEPS at most. */
-        private int tellOn(int step, int pair, int path) {
+        private int tellOn(int step, int pair, int path, int highest) {
             if (stepEnds[step]) {
-                return tell(step + 1, 0, 0);
+                return tell(step + 1, 0, 0, highest);
             }
-            return tell(step + 1, goesTo[pair], path | 1 << pair);
+            return tell(step + 1, goesTo[pair], path | 1 << pair, highest);
         }
     }
 

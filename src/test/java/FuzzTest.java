@@ -20,7 +20,7 @@ public final class FuzzTest {
     }
 
     public static void main(String[] args) {
-        int runs = args.length > 0 ? Integer.parseInt(args[0]) : 1500;
+        int runs = args.length > 0 ? Integer.parseInt(args[0]) : 3000;
         long seed = args.length > 1 ? Long.parseLong(args[1]) : 1;
         for (int run = 0; run < runs && wrong < 5; run++) {
             new FuzzTest(seed * 1000003 + run).go(run);
@@ -51,7 +51,7 @@ public final class FuzzTest {
     private void giveText(boolean spoil, boolean manyRays) {
         String text = texts.book(manyRays);
         if (spoil) {
-            text = texts.spoilt(text);
+            text = chance.nextInt(3) == 0 ? texts.mixedUp(text) : texts.spoilt(text);
         }
         told.append("\n  text ").append(text);
         int n = text.length();
@@ -169,8 +169,29 @@ public final class FuzzTest {
     }
 
     private void stake(int i, int j) {
+        if (chance.nextInt(6) == 0) {
+            stakeAll();
+            return;
+        }
         int n = chance.nextInt(8) == 0 ? chance.nextInt(120) - 10 : chance.nextInt(4);
         same("stake(" + i + "," + j + "," + n + ")", program.stake(i, j, n), model.stake(i, j, n));
+    }
+
+    /** Coins on all of a set, so that there is a worst above nothing. */
+    private void stakeAll() {
+        int set = chance.nextInt(4);
+        int most = chance.nextBoolean() ? 3 : 99;
+        for (int outcome = 0; outcome < 4; outcome++) {
+            int n = 1 + chance.nextInt(most);
+            same("stake(" + set + "," + outcome + "," + n + ")", program.stake(set, outcome, n),
+                model.stake(set, outcome, n));
+        }
+        same("wins()", program.wins(), model.wins());
+        same("worst()", program.worst(), model.worst());
+        same("worstAt()", program.worstAt(), model.worstAt());
+        same("bars()", program.bars(), model.bars());
+        same("fair(false)", program.fair(false), model.fair(false));
+        same("fair(true)", program.fair(true), model.fair(true));
     }
 
     private void shift() {

@@ -9,6 +9,11 @@ final class Texts {
     private static final String[] TOKENS = {"law", "look", "point", "set", "line", "ray", "run", "of", "tells", "is",
         "even", "odd", ";", ",", "-", "0", "1", "2", "4", "60", "61", "100", "1000", "a", "b", "p", "abcdefghi", "A", "\t"};
 
+    /** 18 rays without a colour: each is in two of nine corners. */
+    private static final int[][] COLOURLESS = {{0, 0, 0, 1}, {0, 0, 1, 0}, {1, 1, 0, 0}, {1, -1, 0, 0}, {0, 1, 0, 0},
+        {1, 0, 1, 0}, {1, 0, -1, 0}, {1, -1, 1, -1}, {1, -1, -1, 1}, {0, 0, 1, 1}, {1, 1, 1, 1}, {0, 1, 0, -1},
+        {1, 0, 0, 1}, {1, 0, 0, -1}, {0, 1, -1, 0}, {1, 1, -1, 1}, {1, 1, 1, -1}, {-1, 1, 1, 1}};
+
     private final Random chance;
     private final List<String> looks = new ArrayList<>();
     private final List<String> points = new ArrayList<>();
@@ -42,6 +47,38 @@ final class Texts {
                 return text;
             }
         }
+    }
+
+    /** A text in which some lines were left out, told again or put elsewhere. */
+    String mixedUp(String text) {
+        List<String> lines = new ArrayList<>(List.of(text.split(";")));
+        switch (chance.nextInt(4)) {
+            case 0:
+                lines.remove(chance.nextInt(lines.size()));
+                break;
+            case 1:
+                String line = lines.get(chance.nextInt(lines.size()));
+                for (int i = chance.nextInt(18); i >= 0; i--) {
+                    lines.add(lines.size() - chance.nextInt(lines.size()), line);
+                }
+                break;
+            case 2:
+                lines.add(chance.nextInt(lines.size() + 1), (chance.nextBoolean() ? "look " : "point ") + fresh());
+                break;
+            default:
+                java.util.Collections.shuffle(lines, chance);
+                break;
+        }
+        String all = String.join(";", lines);
+        return all.length() > 900 ? all.substring(0, 900) : all;
+    }
+
+    private String fresh() {
+        List<String> names = new ArrayList<>();
+        for (int i = chance.nextInt(9); i >= 0; i--) {
+            names.add("x" + (char) ('a' + i));
+        }
+        return String.join(",", names);
     }
 
     /** A text in which some tokens or bytes were put in, left out or changed. */
@@ -149,6 +186,10 @@ final class Texts {
     private void addRays(List<String> rest, boolean manyRays) {
         int many = manyRays ? 9 + chance.nextInt(10) : chance.nextInt(9);
         int most = 1 + chance.nextInt(3);
+        if (manyRays && chance.nextBoolean()) {
+            addColourless(rest);
+            return;
+        }
         for (int i = 0; i < many; i++) {
             int[] parts = new int[4];
             while (parts[0] == 0 && parts[1] == 0 && parts[2] == 0 && parts[3] == 0) {
@@ -162,6 +203,24 @@ final class Texts {
                 ray.append(k > 0 ? "," : "").append(parts[k] == 0 && chance.nextInt(9) == 0 ? "-0" : "" + parts[k]);
             }
             rest.add(ray.toString());
+        }
+    }
+
+    /** The rays without a colour, each stretched, with coordinates put elsewhere; at times one is spoilt. */
+    private void addColourless(List<String> rest) {
+        List<Integer> order = new ArrayList<>(List.of(0, 1, 2, 3));
+        java.util.Collections.shuffle(order, chance);
+        int spoilt = chance.nextInt(36);
+        int left = chance.nextInt(36);
+        for (int i = 0; i < COLOURLESS.length; i++) {
+            int by = (chance.nextBoolean() ? 1 : -1) * (1 + chance.nextInt(3));
+            List<String> parts = new ArrayList<>();
+            for (int k : order) {
+                parts.add("" + by * COLOURLESS[i == spoilt ? chance.nextInt(18) : i][k]);
+            }
+            if (i != left && !parts.equals(List.of("0", "0", "0", "0"))) {
+                rest.add("ray " + String.join(",", parts));
+            }
         }
     }
 
