@@ -44,6 +44,7 @@ public final class PromiseTest {
         core();
         squareAndCorners();
         colours();
+        coloursAskedFor();
         memory();
         machine();
         flip();
@@ -51,6 +52,7 @@ public final class PromiseTest {
         forget();
         shift();
         undoAndRedo();
+        allComesBack();
         twentyActs();
         marks();
         act();
@@ -328,9 +330,41 @@ public final class PromiseTest {
         shareIs("law of 2;look a,b,c;set a,b tells 0,1,1,0;set b,c tells 0,1,1,0;set a,c tells 0,1,1,0", 0, 1);
         shareIs("law of 8;look a,b,c;set a,b tells 1,3,3,1;set b,c tells 1,3,3,1;set a,c tells 1,3,3,1", 3, 4);
         shareIs("law of 1;look a,b,c;set a,b tells 0,1,0,0;set b,c tells 0,0,1,0;set a,c tells 1,0,0,0", 1, 1);
+        // halves of what came: the lower number need not go into the law's whole
+        shareIs("law of 4;look a,b,c,d;set b,a tells 1,2,1,0;set c,a tells 1,0,1,2;set d,a tells 0,2,1,1;"
+            + "set c,d tells 0,2,1,1;set d,b tells 0,2,1,1;set b,c tells 1,1,0,2", 3, 8);
+        shareIs("law of 3;look a,b,c,d,e;set e,c tells 1,1,1,0;set c,b tells 0,1,1,1;set b,d tells 0,1,1,1;"
+            + "set b,e tells 1,1,1,0;set d,e tells 1,0,1,1;set c,d tells 0,1,1,1", 1, 2);
+        shareAgain();
         NotAtOnce x = new NotAtOnce();
         is("6 no book", x.share(false), -1);
         is("6 no book", x.trouble(), 1);
+    }
+
+    /** What was found for a table does not stay for the next one. */
+    private static void shareAgain() {
+        NotAtOnce x = of(FOUR);
+        for (int round = 0; round < 2; round++) {
+            is("6 upper", x.share(false), 1);
+            is("6 lower", x.share(true), 4);
+            x.shift(3, 1, 0, 3);
+            is("6 upper behind a shift", x.share(false), 5);
+            is("6 lower behind a shift", x.share(true), 8);
+            x.undo();
+        }
+        x.mark();
+        x.drop(3);
+        is("6 lower behind a drop", x.share(true), 1);
+        x.back(0);
+        is("6 lower behind back", x.share(true), 4);
+        x.forget(1);
+        is("6 lower behind a forget", x.share(true), 1);
+        x.undo();
+        is("6 lower behind undo", x.share(true), 4);
+        x.redo();
+        is("6 lower behind redo", x.share(true), 1);
+        give(x, BOX);
+        is("6 upper of another book", x.share(false), 0);
     }
 
     private static void shareIs(String text, int upper, int lower) {
@@ -477,6 +511,9 @@ public final class PromiseTest {
         give(x, "law of 1;look a,b,c,d,e,f");
         is("10 all without sets", x.hidden(), 64);
         is("11 the last", x.answer(63), 63);
+        give(x, "law of 1;look a,b;set b,a tells 0,1,0,0");
+        is("10 the first look last", x.hidden(), 1);
+        is("11 the first look last", x.answer(0), 1);
         give(x, "law of 1;look a,b,c,d,e,f;set f,b tells 0,1,0,0");
         // f 0 and b 1: 2, 3, 6, 7, 10 ..
         is("10 a fourth", x.hidden(), 16);
@@ -499,6 +536,14 @@ public final class PromiseTest {
         is("12 of one look too", x.disturbed(), 2);
         give(x, "law of 4;look a,b;set a,b tells 0,1,3,0;set b,a tells 0,3,1,0");
         is("12 the other way round", x.disturbed(), -2);
+        give(x, "law of 4;look a,b;set a,b tells 0,1,3,0;set a tells 3,1");
+        is("12 of one look", x.disturbed(), 0);
+        give(x, "law of 4;look a,b;set b tells 4,0;set b tells 3,1");
+        is("12 never and once", x.disturbed(), 1);
+        give(x, "law of 4;look a,b;set b tells 3,1;set b tells 4,0");
+        is("12 once and never", x.disturbed(), 1);
+        give(x, "law of 4;look a,b;set b tells 3,1;set a tells 4,0;set b tells 3,1");
+        is("12 as often", x.disturbed(), -2);
         give(x, "law of 4;look a");
         is("12 no sets", x.disturbed(), -2);
     }
@@ -816,6 +861,20 @@ public final class PromiseTest {
         is("34 no rays", x.trouble(), 6);
     }
 
+    /** Each of these may be the first that is asked for. */
+    private static void coloursAskedFor() {
+        is("32 first", of("law of 1;look a;ray 1,0,0,0;ray 1,1,0,0").ones(), 2);
+        is("33 first", of("law of 1;look a;" + RAYS).spare(), 0);
+        is("34 first", of("law of 1;look a;" + RAYS).critical(), (1 << 18) - 1);
+        is("34 first", of("law of 1;look a").critical(), -1);
+        NotAtOnce x = of("law of 1;look a;" + RAYS);
+        x.colours();
+        give(x, "law of 1;look a;ray 1,0,0,0");
+        is("31 of another book", x.colours(), 2);
+        give(x, "law of 1;look a;" + RAYS);
+        is("34 of another book", x.critical(), (1 << 18) - 1);
+    }
+
     // ---- 35
 
     private static void memory() {
@@ -831,6 +890,10 @@ public final class PromiseTest {
         memoryIs("run a 0,b 0,c 0;run b 0,a 0,c 1", 2);
         // the states behind a and b, and the first, must all be unlike
         memoryIs("run a 0,c 1,c 0;run b 0,c 0,c 1;run c 0,c 0", 3);
+        // what fails later may be the fault of a state gone to long before, or of the run alone
+        memoryIs("run a 0,b 0,c 0;run c 0,b 1,a 1;run b 0,b 0,b 0,b 1", -2);
+        memoryIs("run a 0,b 0,c 0;run b 0,b 1,b 1;run a 0,b 0,b 0,c 1", 3);
+        memoryIs("run a 1,a 0,a 1,b 0,b 1,b 1;run b 0,b 1,a 0;run b 0,a 0,a 1", 3);
     }
 
     private static void memoryIs(String runs, int states) {
@@ -1067,6 +1130,29 @@ public final class PromiseTest {
         coinRow("41 a refused redo takes no coins", x, 1, 8, 0);
         x.undo();
         row("41 the new one is undone", x, 0, 0, 7, 1, 2);
+    }
+
+    /** Each part of a table comes back, of the last set too. */
+    private static void allComesBack() {
+        NotAtOnce x = of("law of 10;look a,b,c" + ";set a,b tells 1,2,3,4".repeat(7) + ";set c,b tells 4,3,2,1");
+        x.forget(0);
+        x.forget(2);
+        is("41 forgotten", x.look(7, false), 1);
+        is("41 forgotten", x.look(0, false), 1);
+        x.undo();
+        is("41 c again", x.look(7, false), 2);
+        is("41 and b", x.look(7, true), 1);
+        row("41 the last set", x, 7, 4, 3, 2, 1);
+        x.undo();
+        is("41 a again", x.look(0, false), 0);
+        is("41 and b", x.look(0, true), 1);
+        row("41 the first set", x, 0, 1, 2, 3, 4);
+        row("41 the last but one", x, 6, 1, 2, 3, 4);
+        x.redo();
+        x.redo();
+        row("42 the last set", x, 7, 6, 4);
+        is("42 forgotten", x.look(7, true), -2);
+        is("42 forgotten", x.look(0, false), 1);
     }
 
     private static void twentyActs() {
