@@ -653,10 +653,10 @@ public final class NotAtOnce {
                 return readLaw();
             }
             if (says("look")) {
-                return readLooks();
+                return readNames(lookNames, true);
             }
             if (says("point")) {
-                return readPoints();
+                return readNames(pointNames, false);
             }
             if (says("set")) {
                 return readSet();
@@ -686,36 +686,22 @@ public final class NotAtOnce {
             return true;
         }
 
-        private boolean readLooks() {
-            for (int i = 0; i <= LOOKS; i++) {
+        private boolean readNames(long[] names, boolean ofLooks) {
+            for (int i = 0; i <= names.length; i++) {
                 next();
                 if (!needNewName()) {
                     return false;
                 }
-                if (draft.looks >= LOOKS) {
+                int count = ofLooks ? draft.looks : draft.points;
+                if (count >= names.length) {
                     return refuse(MANY);
                 }
-                lookNames[draft.looks] = word;
-                draft.looks++;
-                next();
-                if (kind != COMMA) {
-                    return true;
+                names[count] = word;
+                if (ofLooks) {
+                    draft.looks++;
+                } else {
+                    draft.points++;
                 }
-            }
-            return refuse(MANY);
-        }
-
-        private boolean readPoints() {
-            for (int i = 0; i <= POINTS; i++) {
-                next();
-                if (!needNewName()) {
-                    return false;
-                }
-                if (draft.points >= POINTS) {
-                    return refuse(MANY);
-                }
-                pointNames[draft.points] = word;
-                draft.points++;
                 next();
                 if (kind != COMMA) {
                     return true;
@@ -1582,6 +1568,9 @@ public final class NotAtOnce {
             long[] by = cells[row];
             long turnedOn = by[column];
             long there = changed[column];
+            if (there == 0 && turnedOn == scale) {
+                return;
+            }
             for (int i = 0; i <= columns; i++) {
                 if (i != column) {
                     changed[i] = (changed[i] * turnedOn - there * by[i]) / scale;
@@ -1606,10 +1595,10 @@ public final class NotAtOnce {
             ways = 0;
             everOne = 0;
             everNone = 0;
-            for (int bits = 0; bits < held.length; bits++) {
+            int all = (1 << lines) - 1;
+            for (int bits = 0; bits <= all; bits++) {
                 held[bits] = false;
             }
-            int all = (1 << lines) - 1;
             for (int values = 0; values < 1 << points; values++) {
                 int so = soLines(draft, values);
                 held[so] = true;
@@ -1634,15 +1623,15 @@ public final class NotAtOnce {
 
         /** What can be so at once can be with any line less, too; the greater bits are settled first. */
         private void spread() {
-            for (int bits = held.length - 1; bits > 0; bits--) {
-                for (int line = 0; held[bits] && line < LINES; line++) {
+            for (int bits = (1 << lines) - 1; bits > 0; bits--) {
+                for (int line = 0; held[bits] && line < lines; line++) {
                     held[bits & ~(1 << line)] = true;
                 }
             }
         }
 
         boolean holds(int bits) {
-            return bits >= 0 && bits < held.length && held[bits];
+            return bits >= 0 && bits < 1 << lines && held[bits];
         }
 
         int valueOf(int point) {

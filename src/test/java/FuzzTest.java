@@ -38,7 +38,11 @@ public final class FuzzTest {
             if (chance.nextInt(spoil ? 3 : 90) == 0 || calls == 30) {
                 giveText(spoil && chance.nextInt(8) != 0, run % 40 == 1);
             } else {
-                any();
+                if (run % 5 == 2 && chance.nextBoolean()) {
+                    shift();
+                } else {
+                    any();
+                }
                 same("trouble()", program.trouble(), model.trouble());
                 same("where()", program.where(), model.where());
             }
@@ -147,7 +151,7 @@ public final class FuzzTest {
             case 39: same("redo" + name, program.redo(), model.redo()); break;
             case 40: same("mark" + name, program.mark(), model.mark()); break;
             case 41: same("back" + name, program.back(i), model.back(i)); break;
-            case 42: same("act" + name, program.act(i, j), model.act(i, j)); break;
+            case 42: act(i, j); break;
             case 43: same("times" + name, program.times(i, j), model.times(i, j)); break;
             case 44: same("look" + name, program.look(i, b), model.look(i, b)); break;
             default:
@@ -215,6 +219,11 @@ public final class FuzzTest {
     private void can() {
         int bits = chance.nextInt(10) == 0 ? chance.nextInt() : chance.nextInt(1 << chance.nextInt(10));
         same("can(" + bits + ")", program.can(bits), model.can(bits));
+    }
+
+    private void act(int i, int j) {
+        int number = chance.nextBoolean() ? i : chance.nextInt(22);
+        same("act(" + number + "," + j + ")", program.act(number, j), model.act(number, j));
     }
 
     private void square() {

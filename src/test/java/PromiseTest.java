@@ -10,6 +10,8 @@ public final class PromiseTest {
         + "set b,c tells 1,0,0,1;set b,d tells 0,1,1,0";
     /** Two sets that one table of three looks makes. */
     private static final String CHAIN = "law of 10;look a,b,c;set a,b tells 4,1,2,3;set b,c tells 5,1,0,4";
+    private static final String HALVES = "law of 4;look a,b,c,d;set b,a tells 1,2,1,0;set c,a tells 1,0,1,2;"
+        + "set d,a tells 0,2,1,1;set c,d tells 0,2,1,1;set d,b tells 0,2,1,1;set b,c tells 1,1,0,2";
     private static final String SQUARE = "law of 1;look a;point p,q,r,s,t,u,v,w,x;line p,q,r is even;line s,t,u is even;"
         + "line v,w,x is even;line p,s,v is even;line q,t,w is even;line r,u,x is odd";
     private static final String RAYS = "ray 0,0,0,1;ray 0,0,1,0;ray 1,1,0,0;ray 1,-1,0,0;ray 0,1,0,0;ray 1,0,1,0;"
@@ -331,8 +333,7 @@ public final class PromiseTest {
         shareIs("law of 8;look a,b,c;set a,b tells 1,3,3,1;set b,c tells 1,3,3,1;set a,c tells 1,3,3,1", 3, 4);
         shareIs("law of 1;look a,b,c;set a,b tells 0,1,0,0;set b,c tells 0,0,1,0;set a,c tells 1,0,0,0", 1, 1);
         // halves of what came: the lower number need not go into the law's whole
-        shareIs("law of 4;look a,b,c,d;set b,a tells 1,2,1,0;set c,a tells 1,0,1,2;set d,a tells 0,2,1,1;"
-            + "set c,d tells 0,2,1,1;set d,b tells 0,2,1,1;set b,c tells 1,1,0,2", 3, 8);
+        shareIs(HALVES, 3, 8);
         shareIs("law of 3;look a,b,c,d,e;set e,c tells 1,1,1,0;set c,b tells 0,1,1,1;set b,d tells 0,1,1,1;"
             + "set b,e tells 1,1,1,0;set d,e tells 1,0,1,1;set c,d tells 0,1,1,1", 1, 2);
         shareAgain();
@@ -365,6 +366,16 @@ public final class PromiseTest {
         is("6 lower behind redo", x.share(true), 1);
         give(x, BOX);
         is("6 upper of another book", x.share(false), 0);
+        give(x, HALVES);
+        is("6 upper of halves", x.share(false), 3);
+        give(x, FOUR);
+        is("6 upper of the first again", x.share(false), 1);
+        is("6 lower of the first again", x.share(true), 4);
+        give(x, HALVES);
+        is("6 lower of halves", x.share(true), 8);
+        give(x, CHAIN);
+        is("7 of another book", x.together(0, 0, 2, 0, false, false), 3);
+        is("7 of another book", x.together(0, 0, 2, 0, false, true), 10);
     }
 
     private static void shareIs(String text, int upper, int lower) {
@@ -938,6 +949,11 @@ public final class PromiseTest {
         is("36 three states", x.machine(1, 0, true), 2);
         is("36 three states", x.machine(2, 0, true), 0);
         is("36 three states", x.machine(2, 0, false), 1);
+        // b can't go to 0, and so a is never looked at in 0
+        give(x, "law of 1;look a,b;run b 1,a 1,b 1,b 0");
+        is("36 b goes on", x.machine(0, 1, true), 1);
+        is("36 what was tried in vain is no way of it", x.machine(0, 0, true), -2);
+        is("36 what was tried in vain is no way of it", x.machine(0, 0, false), -2);
         give(x, "law of 1;look a;run a 0;run a 1");
         is("36 three don't do", x.machine(0, 0, false), -1);
         is("36 three don't do", x.trouble(), 6);
@@ -1176,7 +1192,16 @@ public final class PromiseTest {
         is("42 no more", x.redo(), false);
         x.flip(0);
         is("45 the last of 20", x.act(19, 0), 0);
+        is("45 the one ahead of it", x.act(18, 0), 3);
         is("45 the first of 20", x.act(0, 0), 3);
+        x.shift(0, 0, 1, 2);
+        x.shift(0, 0, 1, 3);
+        is("45 the last", x.act(19, 4), 3);
+        is("45 the one ahead of it", x.act(18, 4), 2);
+        is("45 the flip", x.act(17, 0), 0);
+        is("45 the one ahead of it", x.act(16, 4), 1);
+        x.undo();
+        x.undo();
         x.undo();
         row("41 the flip", x, 0, 35, 25);
     }
