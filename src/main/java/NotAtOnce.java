@@ -1480,7 +1480,7 @@ public final class NotAtOnce {
             }
         }
 
-        /** The row of a new aim, told by what isn't in the rows' names now. */
+        /** Sets up a new aim's row from the solved ones, so that the climb to it need not begin anew. */
         private void aim(int mask, int value, int side) {
             for (int column = 0; column <= columns; column++) {
                 long sum = 0;
