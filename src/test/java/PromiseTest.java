@@ -332,7 +332,7 @@ public final class PromiseTest {
         shareIs("law of 2;look a,b,c;set a,b tells 0,1,1,0;set b,c tells 0,1,1,0;set a,c tells 0,1,1,0", 0, 1);
         shareIs("law of 8;look a,b,c;set a,b tells 1,3,3,1;set b,c tells 1,3,3,1;set a,c tells 1,3,3,1", 3, 4);
         shareIs("law of 1;look a,b,c;set a,b tells 0,1,0,0;set b,c tells 0,0,1,0;set a,c tells 1,0,0,0", 1, 1);
-        // halves of what came: the lower number need not go into the law's whole
+        // halves of what came: the lower number need not go into the law's whole (not by hand: as the model says)
         shareIs(HALVES, 3, 8);
         shareIs("law of 3;look a,b,c,d,e;set e,c tells 1,1,1,0;set c,b tells 0,1,1,1;set b,d tells 0,1,1,1;"
             + "set b,e tells 1,1,1,0;set d,e tells 1,0,1,1;set c,d tells 0,1,1,1", 1, 2);
@@ -901,7 +901,7 @@ public final class PromiseTest {
         memoryIs("run a 0,b 0,c 0;run b 0,a 0,c 1", 2);
         // the states behind a and b, and the first, must all be unlike
         memoryIs("run a 0,c 1,c 0;run b 0,c 0,c 1;run c 0,c 0", 3);
-        // what fails later may be the fault of a state gone to long before, or of the run alone
+        // what fails later may be the fault of a state gone to long before, or of the run alone (as the model says)
         memoryIs("run a 0,b 0,c 0;run c 0,b 1,a 1;run b 0,b 0,b 0,b 1", -2);
         memoryIs("run a 0,b 0,c 0;run b 0,b 1,b 1;run a 0,b 0,b 0,c 1", 3);
         memoryIs("run a 1,a 0,a 1,b 0,b 1,b 1;run b 0,b 1,a 0;run b 0,a 0,a 1", 3);
